@@ -1,0 +1,69 @@
+/** Counts the answers of one test, prints those that are not due, and reads and fills registers by hexadecimal rows. */
+final class Checks {
+    private int wrong = 0;
+    private int right = 0;
+
+    void due(String what, long got, long want) {
+        if (got == want) {
+            right++;
+        } else {
+            wrong++;
+            System.out.println(what + " answered " + got + ", due is " + want);
+        }
+    }
+
+    void due(String what, String got, String want) {
+        if (got.equals(want)) {
+            right++;
+        } else {
+            wrong++;
+            System.out.println(what + " is " + got + ", due is " + want);
+        }
+    }
+
+    /** Exit code 1 if an answer was wrong, or if there was none at all. */
+    void end(String test) {
+        System.out.println(test + ": " + right + " answers as due, " + wrong + " not");
+        if (wrong != 0 || right == 0) {
+            System.exit(1);
+        }
+    }
+
+    static void fill(KeySealer x, int r, String hex) {
+        x.clear(r);
+        for (int i = 0; i < hex.length(); i += 16) {
+            int end = Math.min(i + 16, hex.length());
+            x.add(r, (end - i) / 2, Long.parseUnsignedLong(hex.substring(i, end), 16));
+        }
+    }
+
+    static String read(KeySealer x, int r) {
+        StringBuilder hex = new StringBuilder();
+        for (int i = 0; i < x.size(r); i++) {
+            hex.append(String.format("%02x", x.at(r, i)));
+        }
+        return hex.toString();
+    }
+
+    /** n bytes of one value. */
+    static String same(int value, int n) {
+        return String.format("%02x", value).repeat(n);
+    }
+
+    /** n bytes that count up from a first one. */
+    static String rising(int first, int n) {
+        StringBuilder hex = new StringBuilder();
+        for (int i = 0; i < n; i++) {
+            hex.append(String.format("%02x", (first + i) & 255));
+        }
+        return hex.toString();
+    }
+
+    static String ofText(String text) {
+        StringBuilder hex = new StringBuilder();
+        for (int i = 0; i < text.length(); i++) {
+            hex.append(String.format("%02x", (int) text.charAt(i)));
+        }
+        return hex.toString();
+    }
+}
