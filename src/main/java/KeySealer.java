@@ -404,7 +404,7 @@ public final class KeySealer {
     }
 
     private Cipher beginCipher(Context mine) {
-        mine.nonce(nonceNow);
+        mine.writeNonce(nonceNow);
         Cipher chosen = cipherOf(mine.cipher);
         chosen.begin(mine.key, nonceNow);
         return chosen;
@@ -511,9 +511,15 @@ public final class KeySealer {
             }
         }
 
+        /** As many of them as are there and find room; a row may come behind itself. */
         void putPart(Row from, int begin, int n) {
-            for (int i = 0; i < n; i++) {
-                put(from.byteAt(begin + i));
+            if (begin < 0) {
+                return;
+            }
+            int many = Math.min(n, Math.min(from.size - begin, bytes.length - size));
+            if (many > 0) {
+                System.arraycopy(from.bytes, begin, bytes, size, many);
+                size += many;
             }
         }
 
@@ -521,9 +527,10 @@ public final class KeySealer {
             putPart(from, 0, from.size);
         }
 
+        /** From must be another row. */
         void become(Row from) {
-            empty();
-            putRow(from);
+            size = 0;
+            putPart(from, 0, from.size);
         }
 
         boolean isZero() {
@@ -729,11 +736,11 @@ public final class KeySealer {
     private static final class Labels {
         private static final String VERSION = "HPKE-v1";
         private static final int AGREEMENT = 32;
-        private static final int MORE = 64;
+        private static final int LABEL_ROOM = 64;
 
         final Keyed keyed = new Keyed();
         final Row id = new Row(10);
-        final Row told = new Row(ROOM + MORE);
+        final Row whole = new Row(ROOM + LABEL_ROOM);
         int kind = 1;
 
         void beginAgreement() {
@@ -753,26 +760,26 @@ public final class KeySealer {
         }
 
         void extract(Row salt, String label, Row message, Row out) {
-            told.empty();
+            whole.empty();
             putLabel(label);
             keyed.begin(kind, salt);
-            keyed.digest.takeRow(told);
+            keyed.digest.takeRow(whole);
             keyed.digest.takeRow(message);
             keyed.finish(out);
         }
 
         void stretch(Row key, String label, Row info, int n, Row out) {
-            told.empty();
-            told.putNumber(n, 2);
+            whole.empty();
+            whole.putNumber(n, 2);
             putLabel(label);
-            told.putRow(info);
-            keyed.stretch(kind, key, told, n, out);
+            whole.putRow(info);
+            keyed.stretch(kind, key, whole, n, out);
         }
 
         private void putLabel(String label) {
-            told.putText(VERSION);
-            told.putRow(id);
-            told.putText(label);
+            whole.putText(VERSION);
+            whole.putRow(id);
+            whole.putText(label);
         }
     }
 
@@ -943,11 +950,13 @@ public final class KeySealer {
 
         private static void carry(long[] h) {
             long over = 0;
-            for (int i = 0; i < LIMBS; i++) {
-                int bits = 26 - (i & 1);
-                long limb = h[i] + over;
-                over = (limb + (1L << (bits - 1))) >> bits;
-                h[i] = limb - (over << bits);
+            for (int i = 0; i + 1 < LIMBS; i += 2) {
+                long even = h[i] + over;
+                over = (even + (1L << 25)) >> 26;
+                h[i] = even - (over << 26);
+                long odd = h[i + 1] + over;
+                over = (odd + (1L << 24)) >> 25;
+                h[i + 1] = odd - (over << 25);
             }
             long first = h[0] + 19 * over;
             over = (first + (1L << 25)) >> 26;
@@ -973,13 +982,13 @@ public final class KeySealer {
             carry(point);
         }
 
-        /** First finds how often 2^255 - 19 must be taken off, so that the number written is the least one. */
+        /** After carrying, h is within some 2^254 of 0: the least number is h itself or, below 0, h and 2^255 - 19. */
         private void writeLimbs(long[] h) {
-            long over = (19 * h[9] + (1L << 24)) >> 25;
+            long over = 0;
             for (int i = 0; i < LIMBS; i++) {
                 over = (h[i] + over) >> (26 - (i & 1));
             }
-            over = 19 * over;
+            over = over < 0 ? -19 : 0;
             long kept = 0;
             int bits = 0;
             result.empty();
@@ -1091,7 +1100,6 @@ public final class KeySealer {
             fillSub();
         }
 
-        @Override
         void begin(Row key, Row nonceNow) {
             stretchKey(key);
             nonce.become(nonceNow);
@@ -1105,22 +1113,18 @@ public final class KeySealer {
             yLow = 0;
         }
 
-        @Override
         void fillStream(int n) {
             fillBlock(n + 2);
         }
 
-        @Override
         void absorb() {
             multiply(longOf(part, 0), longOf(part, 8));
         }
 
-        @Override
         void absorbLengths(int aad, int text) {
             multiply(8L * aad, 8L * text);
         }
 
-        @Override
         void writeTag() {
             fillBlock(1);
             tag.empty();
@@ -1267,7 +1271,6 @@ public final class KeySealer {
             super(64);
         }
 
-        @Override
         void begin(Row key, Row nonce) {
             words[0] = 0x61707865;
             words[1] = 0x3320646e;
@@ -1287,22 +1290,18 @@ public final class KeySealer {
             }
         }
 
-        @Override
         void fillStream(int n) {
             fillBlock(n + 1);
         }
 
-        @Override
         void absorb() {
             multiply(longOf(part, 0), longOf(part, 8));
         }
 
-        @Override
         void absorbLengths(int aad, int text) {
             multiply(aad, text);
         }
 
-        @Override
         void writeTag() {
             carry(v);
             reduce();
@@ -1463,7 +1462,7 @@ public final class KeySealer {
             }
         }
 
-        void nonce(Row out) {
+        void writeNonce(Row out) {
             out.empty();
             for (int i = 0; i < NONCE_BYTES; i++) {
                 int word = i < 4 ? high : i < 8 ? middle : low;
