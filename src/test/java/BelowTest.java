@@ -19,22 +19,6 @@ public final class BelowTest {
         checks.end("BelowTest");
     }
 
-    private static byte[] bytes(String hex) {
-        byte[] out = new byte[hex.length() / 2];
-        for (int i = 0; i < out.length; i++) {
-            out[i] = (byte) Integer.parseInt(hex.substring(2 * i, 2 * i + 2), 16);
-        }
-        return out;
-    }
-
-    private static String hex(byte[] bytes) {
-        StringBuilder out = new StringBuilder();
-        for (byte b : bytes) {
-            out.append(String.format("%02x", b & 255));
-        }
-        return out.toString();
-    }
-
     private static void hash() {
         KeySealer x = new KeySealer();
         Checks.fill(x, 0, Checks.ofText("abc"));
@@ -49,7 +33,7 @@ public final class BelowTest {
             Checks.fill(y, 0, Checks.rising(n, n));
             for (int kind = 1; kind <= 3; kind += 2) {
                 y.hash(kind, 1, 0);
-                checks.due("hash " + kind + " of " + n, Checks.read(y, 1), hex(Model.digest(kind, bytes(Checks.rising(n, n)))));
+                checks.due("hash " + kind + " of " + n, Checks.read(y, 1), Checks.hex(Model.digest(kind, Checks.bytes(Checks.rising(n, n)))));
             }
         }
         checks.due("hash onto itself", x.hash(1, 0, 0), 32);
@@ -77,12 +61,12 @@ public final class BelowTest {
             for (int kind = 1; kind <= 3; kind += 2) {
                 x.mac(kind, 4, 3, 1);
                 checks.due("mac " + kind + " of key " + n, Checks.read(x, 4),
-                        hex(Model.keyed(kind, bytes(Checks.rising(7, n)), Model.text("what do ya want for nothing?"))));
+                        Checks.hex(Model.keyed(kind, Checks.bytes(Checks.rising(7, n)), Model.text("what do ya want for nothing?"))));
             }
         }
         x.copy(5, 0, 0, 4);
         checks.due("mac all in one", x.mac(1, 5, 5, 5), 32);
-        checks.due("maced all in one", Checks.read(x, 5), hex(Model.keyed(1, Model.text("Jefe"), Model.text("Jefe"))));
+        checks.due("maced all in one", Checks.read(x, 5), Checks.hex(Model.keyed(1, Model.text("Jefe"), Model.text("Jefe"))));
         for (int kind : NO_KINDS) {
             checks.due("mac of kind " + kind, x.mac(kind, 2, 0, 1), KeySealer.BAD);
         }
@@ -111,12 +95,12 @@ public final class BelowTest {
                 Checks.fill(y, 5, "01");
                 checks.due("expand " + kind + " to " + n, y.expand(kind, 5, 0, 1, n), n);
                 checks.due("expanded " + kind + " to " + n, Checks.read(y, 5),
-                        hex(Model.stretched(kind, bytes(Checks.rising(n, 40)), bytes(Checks.rising(3, n)), n)));
+                        Checks.hex(Model.stretched(kind, Checks.bytes(Checks.rising(n, 40)), Checks.bytes(Checks.rising(3, n)), n)));
             }
         }
         checks.due("expand all in one", x.expand(3, 2, 2, 2, 200), 200);
         checks.due("expanded all in one", Checks.read(x, 2),
-                hex(Model.stretched(3, bytes(Checks.rising(0xf0, 10)), bytes(Checks.rising(0xf0, 10)), 200)));
+                Checks.hex(Model.stretched(3, Checks.bytes(Checks.rising(0xf0, 10)), Checks.bytes(Checks.rising(0xf0, 10)), 200)));
         for (int n : new int[] {-1, 301, Integer.MIN_VALUE, Integer.MAX_VALUE}) {
             checks.due("expand to " + n, x.expand(1, 4, 3, 1, n), KeySealer.BAD);
         }
@@ -180,9 +164,9 @@ public final class BelowTest {
                 KeySealer x = new KeySealer();
                 Checks.fill(x, 0, key);
                 Checks.fill(x, 1, other);
-                byte[] want = Model.agreement(bytes(key), bytes(other));
+                byte[] want = Model.agreement(Checks.bytes(key), Checks.bytes(other));
                 checks.due("edge " + key + " " + other, x.agree(2, 0, 1), Model.isZero(want) ? KeySealer.INVALID : 32);
-                checks.due("edge " + key + " " + other, Checks.read(x, 2), Model.isZero(want) ? "" : hex(want));
+                checks.due("edge " + key + " " + other, Checks.read(x, 2), Model.isZero(want) ? "" : Checks.hex(want));
             }
         }
     }
@@ -191,7 +175,7 @@ public final class BelowTest {
         KeySealer x = new KeySealer();
         Checks.fill(x, 0, Checks.same(255, 32));
         checks.due("open", x.open(1, 0), 32);
-        checks.due("opened", Checks.read(x, 1), hex(Model.opened(bytes(Checks.same(255, 32)))));
+        checks.due("opened", Checks.read(x, 1), Checks.hex(Model.opened(Checks.bytes(Checks.same(255, 32)))));
         checks.due("the key stays", Checks.read(x, 0), Checks.same(255, 32));
         Checks.fill(x, 2, Checks.rising(0, 32));
         checks.due("open onto itself", x.open(2, 2), 32);
@@ -218,7 +202,7 @@ public final class BelowTest {
         for (int n : new int[] {0, 1, 300}) {
             Checks.fill(x, 5, Checks.rising(n, n));
             checks.due("pair of " + n, x.pair(6, 5, 5), 32);
-            checks.due("pair's key of " + n, Checks.read(x, 6), hex(Model.pairKey(bytes(Checks.rising(n, n)))));
+            checks.due("pair's key of " + n, Checks.read(x, 6), Checks.hex(Model.pairKey(Checks.bytes(Checks.rising(n, n)))));
         }
         for (int r : NO_REGISTERS) {
             checks.due("pair to " + r, x.pair(r, 2, 0), KeySealer.BAD);
@@ -264,7 +248,7 @@ public final class BelowTest {
                 String text = Checks.rising(n, n);
                 String aad = Checks.rising(5, (n * 7) % 301);
                 lockOnce(cipher, key, Checks.rising(n, 12), aad, text,
-                        hex(Model.locked(cipher, bytes(key), bytes(Checks.rising(n, 12)), bytes(aad), bytes(text))));
+                        Checks.hex(Model.locked(cipher, Checks.bytes(key), Checks.bytes(Checks.rising(n, 12)), Checks.bytes(aad), Checks.bytes(text))));
             }
         }
     }
@@ -305,8 +289,8 @@ public final class BelowTest {
         x.copy(4, 4, 0, 284);
         checks.due("lock to the brim", x.lock(3, 4, 1, 2, 3, 4), 300);
         checks.due("lock onto the key", x.lock(2, 1, 1, 2, 1, 1), 48);
-        byte[] key = bytes(Checks.rising(0, 32));
-        checks.due("locked onto the key", Checks.read(x, 1), hex(Model.locked(2, key, bytes(Checks.rising(0, 12)), key, key)));
+        byte[] key = Checks.bytes(Checks.rising(0, 32));
+        checks.due("locked onto the key", Checks.read(x, 1), Checks.hex(Model.locked(2, key, Checks.bytes(Checks.rising(0, 12)), key, key)));
     }
 
     private static void unlockRefusals() {

@@ -37,9 +37,11 @@ final class Checks {
         }
     }
 
+    /** May go beyond the 512 calls that are promised: the class does not count them, and a test has to look. */
     static String read(KeySealer x, int r) {
         StringBuilder hex = new StringBuilder();
-        for (int i = 0; i < x.size(r); i++) {
+        int size = x.size(r);
+        for (int i = 0; i < size; i++) {
             hex.append(String.format("%02x", x.at(r, i)));
         }
         return hex.toString();
@@ -65,5 +67,21 @@ final class Checks {
             hex.append(String.format("%02x", (int) text.charAt(i)));
         }
         return hex.toString();
+    }
+
+    static String hex(byte[] bytes) {
+        StringBuilder hex = new StringBuilder();
+        for (byte b : bytes) {
+            hex.append(String.format("%02x", b & 255));
+        }
+        return hex.toString();
+    }
+
+    static byte[] bytes(String hex) {
+        byte[] out = new byte[hex.length() / 2];
+        for (int i = 0; i < out.length; i++) {
+            out[i] = (byte) Integer.parseInt(hex.substring(2 * i, 2 * i + 2), 16);
+        }
+        return out;
     }
 }

@@ -14,6 +14,8 @@ public final class ContextsTest {
         sharedRefusals();
         invalid();
         oneRegisterForAll();
+        longestRows();
+        nonce();
         sealRefusals();
         unsealRefusals();
         export();
@@ -265,7 +267,57 @@ public final class ContextsTest {
         checks.due("the same is had", keyOf(x, 1), keyOf(x, 0));
     }
 
+    /** Registers to the brim for info, the shared key, its name and what exports are for. */
+    private static void longestRows() {
+        KeySealer x = prepared();
+        Model m = new Model();
+        for (int r : new int[] {0, 3, 4}) {
+            m.registers[r] = Checks.bytes(Checks.read(x, r));
+        }
+        for (int i = 0; i < 300; i++) {
+            x.add(6, 1, 3 * i);
+            m.add(6, 1, 3 * i);
+        }
+        for (int what = 0; what <= 2; what++) {
+            x.use(what, 6);
+            m.use(what, 6);
+        }
+        x.use(3, 4);
+        m.use(3, 4);
+        for (int kind = 1; kind <= 3; kind += 2) {
+            checks.due("sender", x.sender(0, 3, kind, 3, 11, 0, 3), m.sender(0, 3, kind, 3, 11, 0, 3));
+            checks.due("export", x.export(0, 12, 6, 300), m.export(0, 12, 6, 300));
+            checks.due("exported", Checks.read(x, 12), Checks.hex(m.registers[12]));
+            for (int what = 0; what <= 2; what++) {
+                checks.due("secret", x.secret(0, what, 12), m.secret(0, what, 12));
+                checks.due("secret " + what, Checks.read(x, 12), Checks.hex(m.registers[12]));
+            }
+        }
+    }
+
     // ---- contexts
+
+    /** A seal is a lock by the context's key and its base ^ SEQUENCE, byte for byte. */
+    private static void nonce() {
+        for (int cipher = 1; cipher <= 3; cipher++) {
+            KeySealer x = prepared();
+            x.sender(0, 0, 1, cipher, 11, 0, 3);
+            x.sequence(0, 0xf1e2d3c4, 0xb5a69788, 0x796a5b4c);
+            x.secret(0, 0, 12);
+            x.secret(0, 1, 13);
+            String base = Checks.read(x, 13);
+            String sequence = "f1e2d3c4b5a69788796a5b4c";
+            StringBuilder both = new StringBuilder();
+            for (int i = 0; i < 24; i++) {
+                int digit = Character.digit(base.charAt(i), 16) ^ Character.digit(sequence.charAt(i), 16);
+                both.append(Character.forDigit(digit, 16));
+            }
+            Checks.fill(x, 13, both.toString());
+            checks.due("seal", x.seal(0, 14, 9, 10), 45);
+            checks.due("lock", x.lock(cipher, 15, 12, 13, 9, 10), 45);
+            checks.due("the same", Checks.read(x, 14), Checks.read(x, 15));
+        }
+    }
 
     /** A sender in 0 and a receiver in 1, by cipher 3. */
     private static KeySealer talking() {

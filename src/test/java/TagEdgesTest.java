@@ -76,19 +76,13 @@ public final class TagEdgesTest {
             text[i] ^= hidden[i];
         }
         KeySealer x = new KeySealer();
-        put(x, 0, key);
-        put(x, 1, nonce);
-        put(x, 3, text);
+        Checks.fill(x, 0, Checks.hex(key));
+        Checks.fill(x, 1, Checks.hex(nonce));
+        Checks.fill(x, 3, Checks.hex(text));
         checks.due("lock", x.lock(3, 4, 0, 1, 2, 3), 48);
         byte[] want = Model.cat(locked, tag);
         for (int i = 0; i < 48; i++) {
             checks.due("byte " + i, x.at(4, i), want[i] & 255);
-        }
-    }
-
-    private static void put(KeySealer x, int r, byte[] bytes) {
-        for (byte b : bytes) {
-            x.add(r, 1, b);
         }
     }
 }
