@@ -42,21 +42,21 @@ final class Checks {
         StringBuilder hex = new StringBuilder();
         int size = x.size(r);
         for (int i = 0; i < size; i++) {
-            hex.append(String.format("%02x", x.at(r, i)));
+            hex.append(hex(x.at(r, i)));
         }
         return hex.toString();
     }
 
     /** n bytes of one value. */
     static String same(int value, int n) {
-        return String.format("%02x", value).repeat(n);
+        return hex(value).repeat(n);
     }
 
     /** n bytes that count up from a first one. */
     static String rising(int first, int n) {
         StringBuilder hex = new StringBuilder();
         for (int i = 0; i < n; i++) {
-            hex.append(String.format("%02x", (first + i) & 255));
+            hex.append(hex((first + i) & 255));
         }
         return hex.toString();
     }
@@ -64,15 +64,23 @@ final class Checks {
     static String ofText(String text) {
         StringBuilder hex = new StringBuilder();
         for (int i = 0; i < text.length(); i++) {
-            hex.append(String.format("%02x", (int) text.charAt(i)));
+            hex.append(hex(text.charAt(i)));
         }
         return hex.toString();
+    }
+
+    /** A byte's two signs; what is no byte shows as the number that it is. */
+    static String hex(int b) {
+        if (b < 0 || b > 255) {
+            return "<" + b + ">";
+        }
+        return "" + Character.forDigit(b >> 4, 16) + Character.forDigit(b & 15, 16);
     }
 
     static String hex(byte[] bytes) {
         StringBuilder hex = new StringBuilder();
         for (byte b : bytes) {
-            hex.append(String.format("%02x", b & 255));
+            hex.append(hex(b & 255));
         }
         return hex.toString();
     }
