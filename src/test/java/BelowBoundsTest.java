@@ -258,7 +258,8 @@ public final class BelowBoundsTest {
                 checks.due("bit " + bit + " of the key's byte " + i + " is free", same ? 1 : 0, free ? 1 : 0);
             }
         }
-        for (String key : new String[] {Checks.same(0, 32), Checks.same(255, 32), "07" + Checks.same(0, 30) + "c0", "f8" + Checks.same(255, 30) + "3f"}) {
+        String[] keys = {Checks.same(0, 32), Checks.same(255, 32), "07" + Checks.same(0, 30) + "c0", "f8" + Checks.same(255, 30) + "3f"};
+        for (String key : keys) {
             agreeOnce(key, Checks.rising(60, 32));
         }
     }

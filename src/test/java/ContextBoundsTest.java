@@ -29,6 +29,7 @@ public final class ContextBoundsTest {
         told();
         secret();
         withoutCipher();
+        contextsAreApart();
         checks.end("ContextBoundsTest");
     }
 
@@ -370,7 +371,8 @@ public final class ContextBoundsTest {
         }
         for (int c = 0; c <= 3; c++) {
             int context = c;
-            refusals.bad("secret of " + c, new int[] {-1, 3, 4, Integer.MIN_VALUE, Integer.MAX_VALUE}, (x, what) -> x.secret(context, what, Desk.INFO));
+            refusals.bad("secret of " + c, new int[] {-1, 3, 4, Integer.MIN_VALUE, Integer.MAX_VALUE},
+                    (x, what) -> x.secret(context, what, Desk.INFO));
         }
         int[][] sizes = {{1, 1, 16, 12, 32}, {1, 2, 32, 12, 32}, {1, 3, 32, 12, 32}, {3, 1, 16, 12, 64}, {3, 2, 32, 12, 64}, {3, 3, 32, 12, 64}};
         for (int[] size : sizes) {
@@ -408,6 +410,32 @@ public final class ContextBoundsTest {
                 none.bad("unseal", x -> x.unseal(context, Desk.SPARE, Desk.INFO, Desk.FULL));
                 place(begun, c, END);
                 dueSequence("it has a sequence", begun, c, END);
+            }
+        }
+    }
+
+    // ---- Terms: "CONTEXTS 0 .. 3", each with a suite and a SEQUENCE of its own
+
+    private static void contextsAreApart() {
+        int[][] suites = {{1, 1}, {3, 2}, {1, 3}, {3, 255}};
+        Desk desk = Desk.registers();
+        Model m = desk.model();
+        for (int i = 0; i <= 3; i++) {
+            int c = i;
+            int[] suite = suites[i];
+            desk.call(x -> x.sender(c, 0, suite[0], suite[1], Desk.SPARE, Desk.OWN, Desk.THEIR_PUBLIC));
+            m.sender(c, 0, suite[0], suite[1], Desk.SPARE, Desk.OWN, Desk.THEIR_PUBLIC);
+        }
+        for (int c : new int[] {3, 0, 2, 1, 1, 3, 2, 0}) {
+            checks.due("export of " + c, desk.call(x -> x.export(c, Desk.SPARE, Desk.INFO, 70)), 70);
+            m.export(c, Desk.SPARE, Desk.INFO, 70);
+            checks.due("exported of " + c, desk.read(Desk.SPARE), Checks.hex(m.registers[Desk.SPARE]));
+            checks.due("seal by " + c, desk.call(x -> x.seal(c, Desk.SPARE, Desk.INFO, Desk.NAME)), m.seal(c, Desk.SPARE, Desk.INFO, Desk.NAME));
+            checks.due("sealed by " + c, desk.read(Desk.SPARE), Checks.hex(m.registers[Desk.SPARE]));
+            checks.due("pair in between", desk.call(x -> x.pair(Desk.EMPTY, Desk.SPARE, Desk.NAME)), m.pair(Desk.EMPTY, Desk.SPARE, Desk.NAME));
+            for (int i = 0; i <= 3; i++) {
+                int other = i;
+                checks.due("sequence of " + i, desk.ask(x -> x.told(other, 6)), m.told(i, 6));
             }
         }
     }

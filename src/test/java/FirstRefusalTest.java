@@ -237,7 +237,8 @@ public final class FirstRefusalTest {
         for (Desk desk : new Desk[] {Desk.contexts(), atEnd()}) {
             Refusals each = after(desk);
             for (int text : new int[] {Desk.NAME, Desk.FULL}) {
-                each.bad("seal by", new int[] {Desk.RECEIVER, Desk.WITHOUT_CIPHER, Desk.NO_CONTEXT, -1, 4}, (x, c) -> x.seal(c, Desk.INFO, Desk.NAME, text));
+                each.bad("seal by", new int[] {Desk.RECEIVER, Desk.WITHOUT_CIPHER, Desk.NO_CONTEXT, -1, 4},
+                        (x, c) -> x.seal(c, Desk.INFO, Desk.NAME, text));
                 each.bad("seal to", NO_REGISTERS, (x, r) -> x.seal(Desk.SENDER, r, Desk.NAME, text));
                 each.bad("seal aad", NO_REGISTERS, (x, r) -> x.seal(Desk.SENDER, Desk.INFO, r, text));
             }
@@ -257,7 +258,8 @@ public final class FirstRefusalTest {
         for (Desk desk : new Desk[] {Desk.contexts(), atEnd()}) {
             Refusals each = after(desk);
             for (int text : new int[] {Desk.NAME, Desk.FULL}) {
-                each.bad("unseal by", new int[] {Desk.SENDER, Desk.WITHOUT_CIPHER, Desk.NO_CONTEXT, -1, 4}, (x, c) -> x.unseal(c, Desk.INFO, Desk.NAME, text));
+                each.bad("unseal by", new int[] {Desk.SENDER, Desk.WITHOUT_CIPHER, Desk.NO_CONTEXT, -1, 4},
+                        (x, c) -> x.unseal(c, Desk.INFO, Desk.NAME, text));
                 each.bad("unseal to", NO_REGISTERS, (x, r) -> x.unseal(Desk.RECEIVER, r, Desk.NAME, text));
                 each.bad("unseal aad", NO_REGISTERS, (x, r) -> x.unseal(Desk.RECEIVER, Desk.INFO, r, text));
             }

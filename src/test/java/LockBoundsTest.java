@@ -9,6 +9,7 @@ public final class LockBoundsTest {
             textLengths(cipher);
             aadLengths(cipher);
             zerosDoNotStandForBytes(cipher);
+            lowestAndHighestBytes(cipher);
             lockFull(cipher);
             unlockShort(cipher);
             unlockLongest(cipher);
@@ -87,6 +88,22 @@ public final class LockBoundsTest {
             desk.call(x -> x.add(AAD, 1, 0));
             checks.due("unlock with a zero behind the aad", desk.call(x -> x.unlock(cipher, BACK, KEY, NONCE, AAD, LOCKED)), KeySealer.REFUSED);
             checks.due("nothing was unlocked", desk.read(BACK), "99");
+        }
+    }
+
+    /** Keys, nonces, aads and texts of 0s alone and of all bits, around a block. */
+    private static void lowestAndHighestBytes(int cipher) {
+        for (int bits = 0; bits < 16; bits++) {
+            for (int n : new int[] {1, 8, 15, 16, 17, 32}) {
+                String key = Checks.same((bits & 1) * 255, keyBytes(cipher));
+                String nonce = Checks.same((bits >> 1 & 1) * 255, 12);
+                String aad = Checks.same((bits >> 2 & 1) * 255, n);
+                String text = Checks.same((bits >> 3) * 255, n);
+                Desk desk = new Desk().fill(KEY, key).fill(NONCE, nonce).fill(AAD, aad).fill(TEXT, text);
+                desk.call(x -> x.lock(cipher, LOCKED, KEY, NONCE, AAD, TEXT));
+                checks.due("locked by " + cipher + ", " + key + " " + nonce + " " + aad + " " + text, desk.read(LOCKED),
+                        Checks.hex(Model.locked(cipher, Checks.bytes(key), Checks.bytes(nonce), Checks.bytes(aad), Checks.bytes(text))));
+            }
         }
     }
 

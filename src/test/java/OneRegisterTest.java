@@ -95,7 +95,8 @@ public final class OneRegisterTest {
                         x -> x.lock(cipher, APART, keyAt, Desk.NONCE, ONE, Desk.INFO));
                 same("lock in the text", row, x -> x.lock(cipher, ONE, keyAt, Desk.NONCE, Desk.INFO, ONE),
                         x -> x.lock(cipher, APART, keyAt, Desk.NONCE, Desk.INFO, ONE));
-                same("lock aad and text", row, x -> x.lock(cipher, ONE, keyAt, Desk.NONCE, ONE, ONE), x -> x.lock(cipher, APART, keyAt, Desk.NONCE, ONE, ONE));
+                same("lock aad and text", row, x -> x.lock(cipher, ONE, keyAt, Desk.NONCE, ONE, ONE),
+                        x -> x.lock(cipher, APART, keyAt, Desk.NONCE, ONE, ONE));
             }
         }
     }
