@@ -62,9 +62,9 @@ public final class AgreementEdgesTest {
         BigInteger key = new BigInteger(255, random).setBit(254).shiftRight(3).shiftLeft(3);
         BigInteger[] from = ladder(key.modInverse(order), u);
         BigInteger other = from[0].multiply(from[1].modInverse(P)).mod(P);
-        KeySealer x = new KeySealer();
-        Checks.fill(x, 0, Checks.hex(Model.littleBytes(key, 32)));
-        Checks.fill(x, 1, Checks.hex(Model.littleBytes(other, 32)));
+        Sealer x = new Sealer();
+        x.fill(0, Checks.hex(Model.littleBytes(key, 32)));
+        x.fill(1, Checks.hex(Model.littleBytes(other, 32)));
         checks.due("agree on " + u, x.agree(2, 0, 1), 32);
         byte[] want = Model.littleBytes(u, 32);
         for (int i = 0; i < 32; i++) {

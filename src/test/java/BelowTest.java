@@ -20,20 +20,20 @@ public final class BelowTest {
     }
 
     private static void hash() {
-        KeySealer x = new KeySealer();
-        Checks.fill(x, 0, Checks.ofText("abc"));
+        Sealer x = new Sealer();
+        x.fill(0, Checks.ofText("abc"));
         checks.due("hash 1", x.hash(1, 1, 0), 32);
-        checks.due("hash 1 of abc", Checks.read(x, 1), "ba7816bf8f01cfea414140de5dae2223b00361a396177a9cb410ff61f20015ad");
+        checks.due("hash 1 of abc", x.read(1), "ba7816bf8f01cfea414140de5dae2223b00361a396177a9cb410ff61f20015ad");
         checks.due("hash 3", x.hash(3, 1, 0), 64);
-        checks.due("hash 3 of abc", Checks.read(x, 1), "ddaf35a193617abacc417349ae20413112e6fa4e89a97ea20a9eeee64b55d39a"
+        checks.due("hash 3 of abc", x.read(1), "ddaf35a193617abacc417349ae20413112e6fa4e89a97ea20a9eeee64b55d39a"
                 + "2192992a274fc1a836ba3c23a3feebbd454d4423643ce80e2a9ac94fa54ca49f");
-        checks.due("from stays", Checks.read(x, 0), "616263");
+        checks.due("from stays", x.read(0), "616263");
         for (int n = 0; n <= 300; n++) {
-            KeySealer y = new KeySealer();
-            Checks.fill(y, 0, Checks.rising(n, n));
+            Sealer y = new Sealer();
+            y.fill(0, Checks.rising(n, n));
             for (int kind = 1; kind <= 3; kind += 2) {
                 y.hash(kind, 1, 0);
-                checks.due("hash " + kind + " of " + n, Checks.read(y, 1), Checks.hex(Model.digest(kind, Checks.bytes(Checks.rising(n, n)))));
+                checks.due("hash " + kind + " of " + n, y.read(1), Checks.hex(Model.digest(kind, Checks.bytes(Checks.rising(n, n)))));
             }
         }
         checks.due("hash onto itself", x.hash(1, 0, 0), 32);
@@ -48,25 +48,25 @@ public final class BelowTest {
     }
 
     private static void mac() {
-        KeySealer x = new KeySealer();
-        Checks.fill(x, 0, Checks.ofText("Jefe"));
-        Checks.fill(x, 1, Checks.ofText("what do ya want for nothing?"));
+        Sealer x = new Sealer();
+        x.fill(0, Checks.ofText("Jefe"));
+        x.fill(1, Checks.ofText("what do ya want for nothing?"));
         checks.due("mac 1", x.mac(1, 2, 0, 1), 32);
-        checks.due("mac 1 of Jefe", Checks.read(x, 2), "5bdcc146bf60754e6a042426089575c75a003f089d2739839dec58b964ec3843");
+        checks.due("mac 1 of Jefe", x.read(2), "5bdcc146bf60754e6a042426089575c75a003f089d2739839dec58b964ec3843");
         checks.due("mac 3", x.mac(3, 2, 0, 1), 64);
-        checks.due("mac 3 of Jefe", Checks.read(x, 2), "164b7a7bfcf819e2e395fbe73b56e0a387bd64222e831fd610270cd7ea250554"
+        checks.due("mac 3 of Jefe", x.read(2), "164b7a7bfcf819e2e395fbe73b56e0a387bd64222e831fd610270cd7ea250554"
                 + "9758bf75c05a994a6d034f65f8f0e6fdcaeab1a34d4a6b4b636e070a38bce737");
         for (int n : new int[] {0, 1, 63, 64, 65, 127, 128, 129, 300}) {
-            Checks.fill(x, 3, Checks.rising(7, n));
+            x.fill(3, Checks.rising(7, n));
             for (int kind = 1; kind <= 3; kind += 2) {
                 x.mac(kind, 4, 3, 1);
-                checks.due("mac " + kind + " of key " + n, Checks.read(x, 4),
+                checks.due("mac " + kind + " of key " + n, x.read(4),
                         Checks.hex(Model.keyed(kind, Checks.bytes(Checks.rising(7, n)), Model.text("what do ya want for nothing?"))));
             }
         }
         x.copy(5, 0, 0, 4);
         checks.due("mac all in one", x.mac(1, 5, 5, 5), 32);
-        checks.due("maced all in one", Checks.read(x, 5), Checks.hex(Model.keyed(1, Model.text("Jefe"), Model.text("Jefe"))));
+        checks.due("maced all in one", x.read(5), Checks.hex(Model.keyed(1, Model.text("Jefe"), Model.text("Jefe"))));
         for (int kind : NO_KINDS) {
             checks.due("mac of kind " + kind, x.mac(kind, 2, 0, 1), KeySealer.BAD);
         }
@@ -78,28 +78,28 @@ public final class BelowTest {
     }
 
     private static void expand() {
-        KeySealer x = new KeySealer();
-        Checks.fill(x, 0, Checks.same(0x0b, 22));
-        Checks.fill(x, 1, Checks.rising(0, 13));
-        Checks.fill(x, 2, Checks.rising(0xf0, 10));
+        Sealer x = new Sealer();
+        x.fill(0, Checks.same(0x0b, 22));
+        x.fill(1, Checks.rising(0, 13));
+        x.fill(2, Checks.rising(0xf0, 10));
         x.mac(1, 3, 1, 0);
-        checks.due("extract", Checks.read(x, 3), "077709362c2e32df0ddc3f0dc47bba6390b6c73bb50f9c3122ec844ad7c2b3e5");
+        checks.due("extract", x.read(3), "077709362c2e32df0ddc3f0dc47bba6390b6c73bb50f9c3122ec844ad7c2b3e5");
         checks.due("expand", x.expand(1, 4, 3, 2, 42), 42);
-        checks.due("expanded", Checks.read(x, 4),
+        checks.due("expanded", x.read(4),
                 "3cb25f25faacd57a90434f64d0362f2a2d2d0a90cf1a5a4c5db02d56ecc4c5bf34007208d5b887185865");
         for (int n : new int[] {0, 1, 31, 32, 33, 63, 64, 65, 255, 256, 257, 299, 300}) {
             for (int kind = 1; kind <= 3; kind += 2) {
-                KeySealer y = new KeySealer();
-                Checks.fill(y, 0, Checks.rising(n, 40));
-                Checks.fill(y, 1, Checks.rising(3, n));
-                Checks.fill(y, 5, "01");
+                Sealer y = new Sealer();
+                y.fill(0, Checks.rising(n, 40));
+                y.fill(1, Checks.rising(3, n));
+                y.fill(5, "01");
                 checks.due("expand " + kind + " to " + n, y.expand(kind, 5, 0, 1, n), n);
-                checks.due("expanded " + kind + " to " + n, Checks.read(y, 5),
+                checks.due("expanded " + kind + " to " + n, y.read(5),
                         Checks.hex(Model.stretched(kind, Checks.bytes(Checks.rising(n, 40)), Checks.bytes(Checks.rising(3, n)), n)));
             }
         }
         checks.due("expand all in one", x.expand(3, 2, 2, 2, 200), 200);
-        checks.due("expanded all in one", Checks.read(x, 2),
+        checks.due("expanded all in one", x.read(2),
                 Checks.hex(Model.stretched(3, Checks.bytes(Checks.rising(0xf0, 10)), Checks.bytes(Checks.rising(0xf0, 10)), 200)));
         for (int n : new int[] {-1, 301, Integer.MIN_VALUE, Integer.MAX_VALUE}) {
             checks.due("expand to " + n, x.expand(1, 4, 3, 1, n), KeySealer.BAD);
@@ -116,13 +116,13 @@ public final class BelowTest {
     }
 
     private static void agreeOnce(String key, String other, String want) {
-        KeySealer x = new KeySealer();
-        Checks.fill(x, 0, key);
-        Checks.fill(x, 1, other);
+        Sealer x = new Sealer();
+        x.fill(0, key);
+        x.fill(1, other);
         checks.due("agree", x.agree(2, 0, 1), 32);
-        checks.due("agreed", Checks.read(x, 2), want);
+        checks.due("agreed", x.read(2), want);
         checks.due("agree onto the key", x.agree(0, 0, 1), 32);
-        checks.due("agreed onto the key", Checks.read(x, 0), want);
+        checks.due("agreed onto the key", x.read(0), want);
     }
 
     private static void agree() {
@@ -132,11 +132,11 @@ public final class BelowTest {
         agreeOnce("4b66e9d4d1b4673c5ad22691957d6af5c11b6421e0ea01d42ca4169e7918ba0d",
                 "e5210f12786811d3f4b7959d0538ae2c31dbe7106fc03c3efc4cd549c715a493",
                 "95cbde9476e8907d7aade45cb4b873f88b595a68799fa152e6f8f7647aac7957");
-        KeySealer x = new KeySealer();
-        Checks.fill(x, 0, Checks.rising(1, 32));
-        Checks.fill(x, 1, Checks.rising(1, 31));
-        Checks.fill(x, 2, Checks.rising(1, 33));
-        Checks.fill(x, 3, "77");
+        Sealer x = new Sealer();
+        x.fill(0, Checks.rising(1, 32));
+        x.fill(1, Checks.rising(1, 31));
+        x.fill(2, Checks.rising(1, 33));
+        x.fill(3, "77");
         for (int r : new int[] {1, 2, 9, -1, 16, Integer.MIN_VALUE, Integer.MAX_VALUE}) {
             checks.due("agree with key " + r, x.agree(3, r, 0), KeySealer.BAD);
             checks.due("agree with " + r, x.agree(3, 0, r), KeySealer.BAD);
@@ -145,10 +145,10 @@ public final class BelowTest {
             checks.due("agree to " + r, x.agree(r, 0, 0), KeySealer.BAD);
         }
         for (String small : new String[] {Checks.same(0, 32), "01" + Checks.same(0, 31), Checks.same(0, 31) + "80"}) {
-            Checks.fill(x, 4, small);
+            x.fill(4, small);
             checks.due("agree to zeros", x.agree(3, 0, 4), KeySealer.INVALID);
         }
-        checks.due("refused ones do nothing", Checks.read(x, 3), "77");
+        checks.due("refused ones do nothing", x.read(3), "77");
     }
 
     /** Numbers around the modulus and rows whose limbs are as large as they can be. */
@@ -161,26 +161,26 @@ public final class BelowTest {
             "5f9c95bca3508c24b1d0b1559c83ef5b04445cc4581c8e86d8224eddd09f1157", Checks.same(128, 32), Checks.same(127, 32)};
         for (String key : edges) {
             for (String other : edges) {
-                KeySealer x = new KeySealer();
-                Checks.fill(x, 0, key);
-                Checks.fill(x, 1, other);
+                Sealer x = new Sealer();
+                x.fill(0, key);
+                x.fill(1, other);
                 byte[] want = Model.agreement(Checks.bytes(key), Checks.bytes(other));
                 checks.due("edge " + key + " " + other, x.agree(2, 0, 1), Model.isZero(want) ? KeySealer.INVALID : 32);
-                checks.due("edge " + key + " " + other, Checks.read(x, 2), Model.isZero(want) ? "" : Checks.hex(want));
+                checks.due("edge " + key + " " + other, x.read(2), Model.isZero(want) ? "" : Checks.hex(want));
             }
         }
     }
 
     private static void open() {
-        KeySealer x = new KeySealer();
-        Checks.fill(x, 0, Checks.same(255, 32));
+        Sealer x = new Sealer();
+        x.fill(0, Checks.same(255, 32));
         checks.due("open", x.open(1, 0), 32);
-        checks.due("opened", Checks.read(x, 1), Checks.hex(Model.opened(Checks.bytes(Checks.same(255, 32)))));
-        checks.due("the key stays", Checks.read(x, 0), Checks.same(255, 32));
-        Checks.fill(x, 2, Checks.rising(0, 32));
+        checks.due("opened", x.read(1), Checks.hex(Model.opened(Checks.bytes(Checks.same(255, 32)))));
+        checks.due("the key stays", x.read(0), Checks.same(255, 32));
+        x.fill(2, Checks.rising(0, 32));
         checks.due("open onto itself", x.open(2, 2), 32);
-        checks.due("opened onto itself", Checks.read(x, 2), "8f40c5adb68f25624ae5b214ea767a6ec94d829d3d7b5e1ad1ba6f3e2138285f");
-        Checks.fill(x, 3, Checks.rising(0, 31));
+        checks.due("opened onto itself", x.read(2), "8f40c5adb68f25624ae5b214ea767a6ec94d829d3d7b5e1ad1ba6f3e2138285f");
+        x.fill(3, Checks.rising(0, 31));
         for (int r : new int[] {3, 9, -1, 16, Integer.MIN_VALUE, Integer.MAX_VALUE}) {
             checks.due("open of " + r, x.open(1, r), KeySealer.BAD);
         }
@@ -190,19 +190,19 @@ public final class BelowTest {
     }
 
     private static void pair() {
-        KeySealer x = new KeySealer();
-        Checks.fill(x, 0, "7268600d403fce431561aef583ee1613527cff655c1343f29812e66706df3234");
+        Sealer x = new Sealer();
+        x.fill(0, "7268600d403fce431561aef583ee1613527cff655c1343f29812e66706df3234");
         checks.due("pair", x.pair(1, 2, 0), 32);
-        checks.due("pair's key", Checks.read(x, 1), "52c4a758a802cd8b936eceea314432798d5baf2d7e9235dc084ab1b9cfa2f736");
-        checks.due("pair's public key", Checks.read(x, 2), "37fda3567bdbd628e88668c3c8d7e97d1d1253b6d4ea6d44c150f741f1bf4431");
+        checks.due("pair's key", x.read(1), "52c4a758a802cd8b936eceea314432798d5baf2d7e9235dc084ab1b9cfa2f736");
+        checks.due("pair's public key", x.read(2), "37fda3567bdbd628e88668c3c8d7e97d1d1253b6d4ea6d44c150f741f1bf4431");
         checks.due("pair in one", x.pair(3, 3, 0), 32);
-        checks.due("the public key counts", Checks.read(x, 3), Checks.read(x, 2));
+        checks.due("the public key counts", x.read(3), x.read(2));
         checks.due("pair onto from", x.pair(0, 4, 0), 32);
-        checks.due("key onto from", Checks.read(x, 0), Checks.read(x, 1));
+        checks.due("key onto from", x.read(0), x.read(1));
         for (int n : new int[] {0, 1, 300}) {
-            Checks.fill(x, 5, Checks.rising(n, n));
+            x.fill(5, Checks.rising(n, n));
             checks.due("pair of " + n, x.pair(6, 5, 5), 32);
-            checks.due("pair's key of " + n, Checks.read(x, 6), Checks.hex(Model.pairKey(Checks.bytes(Checks.rising(n, n)))));
+            checks.due("pair's key of " + n, x.read(6), Checks.hex(Model.pairKey(Checks.bytes(Checks.rising(n, n)))));
         }
         for (int r : NO_REGISTERS) {
             checks.due("pair to " + r, x.pair(r, 2, 0), KeySealer.BAD);
@@ -212,15 +212,15 @@ public final class BelowTest {
     }
 
     private static void lockOnce(int cipher, String key, String nonce, String aad, String text, String want) {
-        KeySealer x = new KeySealer();
-        Checks.fill(x, 0, key);
-        Checks.fill(x, 1, nonce);
-        Checks.fill(x, 2, aad);
-        Checks.fill(x, 3, text);
+        Sealer x = new Sealer();
+        x.fill(0, key);
+        x.fill(1, nonce);
+        x.fill(2, aad);
+        x.fill(3, text);
         checks.due("lock " + cipher, x.lock(cipher, 4, 0, 1, 2, 3), want.length() / 2);
-        checks.due("locked by " + cipher, Checks.read(x, 4), want);
+        checks.due("locked by " + cipher, x.read(4), want);
         checks.due("unlock " + cipher, x.unlock(cipher, 5, 0, 1, 2, 4), text.length() / 2);
-        checks.due("unlocked by " + cipher, Checks.read(x, 5), text);
+        checks.due("unlocked by " + cipher, x.read(5), text);
     }
 
     private static void lockPublished() {
@@ -254,18 +254,18 @@ public final class BelowTest {
     }
 
     /** Registers 0, 1: keys of 16 and 32; 2 a nonce; 3 a text; 4 one that is too long; 5 what is locked. */
-    private static KeySealer locker() {
-        KeySealer x = new KeySealer();
-        Checks.fill(x, 0, Checks.rising(0, 16));
-        Checks.fill(x, 1, Checks.rising(0, 32));
-        Checks.fill(x, 2, Checks.rising(0, 12));
-        Checks.fill(x, 3, Checks.rising(0, 20));
-        Checks.fill(x, 4, Checks.rising(0, 285));
+    private static Sealer locker() {
+        Sealer x = new Sealer();
+        x.fill(0, Checks.rising(0, 16));
+        x.fill(1, Checks.rising(0, 32));
+        x.fill(2, Checks.rising(0, 12));
+        x.fill(3, Checks.rising(0, 20));
+        x.fill(4, Checks.rising(0, 285));
         return x;
     }
 
     private static void lockRefusals() {
-        KeySealer x = locker();
+        Sealer x = locker();
         for (int cipher : new int[] {0, 4, -1, 255, Integer.MIN_VALUE, Integer.MAX_VALUE}) {
             checks.due("lock by " + cipher, x.lock(cipher, 9, 1, 2, 3, 3), KeySealer.BAD);
         }
@@ -290,11 +290,11 @@ public final class BelowTest {
         checks.due("lock to the brim", x.lock(3, 4, 1, 2, 3, 4), 300);
         checks.due("lock onto the key", x.lock(2, 1, 1, 2, 1, 1), 48);
         byte[] key = Checks.bytes(Checks.rising(0, 32));
-        checks.due("locked onto the key", Checks.read(x, 1), Checks.hex(Model.locked(2, key, Checks.bytes(Checks.rising(0, 12)), key, key)));
+        checks.due("locked onto the key", x.read(1), Checks.hex(Model.locked(2, key, Checks.bytes(Checks.rising(0, 12)), key, key)));
     }
 
     private static void unlockRefusals() {
-        KeySealer x = locker();
+        Sealer x = locker();
         for (int cipher : new int[] {0, 4, -1, 255, Integer.MIN_VALUE, Integer.MAX_VALUE}) {
             checks.due("unlock by " + cipher, x.unlock(cipher, 9, 1, 2, 3, 3), KeySealer.BAD);
         }
@@ -321,7 +321,7 @@ public final class BelowTest {
             checks.due("unlock with another aad", x.unlock(cipher, 9, key, 2, 10, 5), KeySealer.REFUSED);
             checks.due("refused ones do nothing", x.size(9), 0);
             checks.due("unlock", x.unlock(cipher, 5, key, 2, 3, 5), 20);
-            checks.due("unlocked", Checks.read(x, 5), Checks.rising(0, 20));
+            checks.due("unlocked", x.read(5), Checks.rising(0, 20));
             x.lock(cipher, 5, key, 2, 10, 10);
             checks.due("lock nothing", x.size(5), 16);
             checks.due("unlock to nothing", x.unlock(cipher, 5, key, 2, 10, 5), 0);

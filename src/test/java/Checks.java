@@ -1,4 +1,4 @@
-/** Counts the answers of one test, prints those that are not due, and reads and fills registers by hexadecimal rows. */
+/** Counts the answers of one test, prints those that are not due, and makes hexadecimal rows to fill registers with. */
 final class Checks {
     private int wrong = 0;
     private int right = 0;
@@ -27,24 +27,6 @@ final class Checks {
         if (wrong != 0 || right == 0) {
             System.exit(1);
         }
-    }
-
-    static void fill(KeySealer x, int r, String hex) {
-        x.clear(r);
-        for (int i = 0; i < hex.length(); i += 16) {
-            int end = Math.min(i + 16, hex.length());
-            x.add(r, (end - i) / 2, Long.parseUnsignedLong(hex.substring(i, end), 16));
-        }
-    }
-
-    /** May go beyond the 512 calls that are promised: the class does not count them, and a test has to look. */
-    static String read(KeySealer x, int r) {
-        StringBuilder hex = new StringBuilder();
-        int size = x.size(r);
-        for (int i = 0; i < size; i++) {
-            hex.append(hex(x.at(r, i)));
-        }
-        return hex.toString();
     }
 
     /** n bytes of one value. */

@@ -51,78 +51,78 @@ public final class ContextsTest {
     }
 
     private static void publishedMode(int mode, String fromE, String fromR, String fromS, String key, String base, String exporter) {
-        KeySealer x = new KeySealer();
-        Checks.fill(x, 6, fromE);
+        Sealer x = new Sealer();
+        x.fill(6, fromE);
         x.pair(0, 10, 6);
-        Checks.fill(x, 6, fromR);
+        x.fill(6, fromR);
         x.pair(2, 3, 6);
-        Checks.fill(x, 6, fromS);
+        x.fill(6, fromS);
         x.pair(4, 5, 6);
-        Checks.fill(x, 7, INFO);
+        x.fill(7, INFO);
         x.use(0, 7);
         x.use(3, 4);
         x.use(4, 5);
         if ((mode & 1) == 1) {
-            Checks.fill(x, 8, "0247fd33b913760fa1fa51e1892d9f307fbe65eb171e8132c2af18555a738b82");
-            Checks.fill(x, 9, Checks.ofText("Ennyn Durin aran Moria"));
+            x.fill(8, "0247fd33b913760fa1fa51e1892d9f307fbe65eb171e8132c2af18555a738b82");
+            x.fill(9, Checks.ofText("Ennyn Durin aran Moria"));
             x.use(1, 8);
             x.use(2, 9);
         }
         checks.due("sender of mode " + mode, x.sender(0, mode, 1, 1, 11, 0, 3), 32);
-        checks.due("given by mode " + mode, Checks.read(x, 11), Checks.read(x, 10));
+        checks.due("given by mode " + mode, x.read(11), x.read(10));
         checks.due("receiver of mode " + mode, x.receiver(3, mode, 1, 1, 11, 2), 0);
         for (int context = 0; context <= 3; context += 3) {
             checks.due("secret", x.secret(context, 0, 12), 16);
-            checks.due("key of mode " + mode, Checks.read(x, 12), key);
+            checks.due("key of mode " + mode, x.read(12), key);
             checks.due("secret", x.secret(context, 1, 12), 12);
-            checks.due("base of mode " + mode, Checks.read(x, 12), base);
+            checks.due("base of mode " + mode, x.read(12), base);
             checks.due("secret", x.secret(context, 2, 12), 32);
-            checks.due("exporter of mode " + mode, Checks.read(x, 12), exporter);
+            checks.due("exporter of mode " + mode, x.read(12), exporter);
         }
     }
 
     private static void publishedText() {
-        KeySealer x = new KeySealer();
-        Checks.fill(x, 0, "52c4a758a802cd8b936eceea314432798d5baf2d7e9235dc084ab1b9cfa2f736");
-        Checks.fill(x, 1, "3948cfe0ad1ddb695d780e59077195da6c56506b027329794ab02bca80815c4d");
-        Checks.fill(x, 2, INFO);
-        Checks.fill(x, 3, TEXT);
-        Checks.fill(x, 4, Checks.ofText("Count-0"));
+        Sealer x = new Sealer();
+        x.fill(0, "52c4a758a802cd8b936eceea314432798d5baf2d7e9235dc084ab1b9cfa2f736");
+        x.fill(1, "3948cfe0ad1ddb695d780e59077195da6c56506b027329794ab02bca80815c4d");
+        x.fill(2, INFO);
+        x.fill(3, TEXT);
+        x.fill(4, Checks.ofText("Count-0"));
         x.use(0, 2);
         x.sender(2, 0, 1, 1, 5, 0, 1);
         checks.due("seal", x.seal(2, 6, 4, 3), 45);
-        checks.due("sealed", Checks.read(x, 6),
+        checks.due("sealed", x.read(6),
                 "f938558b5d72f1a23810b4be2ab4f84331acc02fc97babc53a52ae8218a355a96d8770ac83d07bea87e13c512a");
-        Checks.fill(x, 4, Checks.ofText("Count-1"));
+        x.fill(4, Checks.ofText("Count-1"));
         checks.due("seal", x.seal(2, 6, 4, 3), 45);
-        checks.due("sealed again", Checks.read(x, 6),
+        checks.due("sealed again", x.read(6),
                 "af2d7e9ac9ae7e270f46ba1f975be53c09f8d875bdc8535458c2494e8a6eab251c03d0c22a56b8ca42c2063b84");
         checks.due("export", x.export(2, 6, 7, 32), 32);
-        checks.due("exported", Checks.read(x, 6), "3853fe2b4035195a573ffc53856e77058e15d9ea064de3e59f4961d0095250ee");
+        checks.due("exported", x.read(6), "3853fe2b4035195a573ffc53856e77058e15d9ea064de3e59f4961d0095250ee");
     }
 
     // ---- beginnings
 
     /** 0, 1 an own pair, 2, 3 the other's, 4, 5 a lasting one; 8 a shared key, 9 its name; 10 a text. */
-    private static KeySealer prepared() {
-        KeySealer x = new KeySealer();
+    private static Sealer prepared() {
+        Sealer x = new Sealer();
         for (int r = 0; r < 6; r += 2) {
-            Checks.fill(x, r, Checks.rising(11 * r, 32));
+            x.fill(r, Checks.rising(11 * r, 32));
             x.open(r + 1, r);
         }
-        Checks.fill(x, 8, "01");
-        Checks.fill(x, 9, "02");
-        Checks.fill(x, 10, TEXT);
+        x.fill(8, "01");
+        x.fill(9, "02");
+        x.fill(10, TEXT);
         return x;
     }
 
-    private static String keyOf(KeySealer x, int context) {
+    private static String keyOf(Sealer x, int context) {
         x.secret(context, 2, 15);
-        return Checks.read(x, 15);
+        return x.read(15);
     }
 
     private static void use() {
-        KeySealer x = new KeySealer();
+        Sealer x = new Sealer();
         for (int what = 0; what <= 4; what++) {
             checks.due("use " + what, x.use(what, 0), 0);
             checks.due("use " + what, x.use(what, 15), 0);
@@ -138,16 +138,16 @@ public final class ContextsTest {
     }
 
     private static void useIsReadWhenOneBegins() {
-        KeySealer x = prepared();
-        Checks.fill(x, 7, "aa");
+        Sealer x = prepared();
+        x.fill(7, "aa");
         x.use(0, 7);
         x.sender(0, 0, 1, 1, 11, 0, 3);
         String first = keyOf(x, 0);
-        Checks.fill(x, 7, "bb");
+        x.fill(7, "bb");
         checks.due("a context keeps what it has", keyOf(x, 0), first);
         x.sender(1, 0, 1, 1, 11, 0, 3);
         checks.due("info is another", keyOf(x, 1).equals(first) ? 1 : 0, 0);
-        Checks.fill(x, 7, "aa");
+        x.fill(7, "aa");
         x.use(0, 16);
         x.sender(1, 0, 1, 1, 11, 0, 3);
         checks.due("a refused use does nothing", keyOf(x, 1), first);
@@ -159,8 +159,8 @@ public final class ContextsTest {
     }
 
     private static void beginRefusals() {
-        KeySealer x = prepared();
-        Checks.fill(x, 6, Checks.rising(0, 31));
+        Sealer x = prepared();
+        x.fill(6, Checks.rising(0, 31));
         x.use(3, 4);
         x.use(4, 5);
         for (int c : NO_CONTEXTS) {
@@ -193,7 +193,7 @@ public final class ContextsTest {
         lastingRefusals(x);
     }
 
-    private static void lastingRefusals(KeySealer x) {
+    private static void lastingRefusals(Sealer x) {
         for (int r : new int[] {KeySealer.NONE, 6, 14}) {
             x.use(3, r);
             x.use(4, 5);
@@ -213,7 +213,7 @@ public final class ContextsTest {
     }
 
     private static void sharedRefusals() {
-        KeySealer x = prepared();
+        Sealer x = prepared();
         x.use(3, 4);
         x.use(4, 5);
         int[] holders = {KeySealer.NONE, 14, 8};
@@ -234,13 +234,13 @@ public final class ContextsTest {
     }
 
     private static void invalid() {
-        KeySealer x = prepared();
-        Checks.fill(x, 7, Checks.same(0, 32));
+        Sealer x = prepared();
+        x.fill(7, Checks.same(0, 32));
         x.use(3, 4);
         x.use(4, 5);
         x.sender(0, 0, 1, 3, 11, 0, 3);
         String before = keyOf(x, 0);
-        Checks.fill(x, 11, "55");
+        x.fill(11, "55");
         checks.due("sender to zeros", x.sender(0, 0, 1, 1, 11, 0, 7), KeySealer.INVALID);
         checks.due("sender to zeros", x.sender(0, 2, 1, 1, 11, 0, 7), KeySealer.INVALID);
         checks.due("shared before invalid", x.sender(0, 1, 1, 1, 11, 0, 7), KeySealer.SHARED);
@@ -248,7 +248,7 @@ public final class ContextsTest {
         x.use(4, 7);
         checks.due("lasting key of zeros", x.receiver(0, 2, 1, 1, 1, 2), KeySealer.INVALID);
         checks.due("mode 0 does not look at it", x.receiver(1, 0, 1, 1, 1, 2), 0);
-        checks.due("nothing was given", Checks.read(x, 11), "55");
+        checks.due("nothing was given", x.read(11), "55");
         checks.due("the context is as it was", keyOf(x, 0), before);
         checks.due("the context is as it was", x.told(0, 0), 1);
         checks.due("the context is as it was", x.told(0, 3), 3);
@@ -256,23 +256,23 @@ public final class ContextsTest {
 
     /** What a sender gives comes last, so info, shared key and keys may all be in its register. */
     private static void oneRegisterForAll() {
-        KeySealer x = prepared();
+        Sealer x = prepared();
         x.copy(6, 4, 0, 32);
         for (int what = 0; what <= 3; what++) {
             x.use(what, 4);
         }
         checks.due("sender apart", x.sender(0, 3, 3, 2, 11, 6, 6), 32);
         checks.due("sender in one", x.sender(1, 3, 3, 2, 4, 4, 4), 32);
-        checks.due("the same is given", Checks.read(x, 4), Checks.read(x, 11));
+        checks.due("the same is given", x.read(4), x.read(11));
         checks.due("the same is had", keyOf(x, 1), keyOf(x, 0));
     }
 
     /** Registers to the brim for info, the shared key, its name and what exports are for. */
     private static void longestRows() {
-        KeySealer x = prepared();
+        Sealer x = prepared();
         Model m = new Model();
         for (int r : new int[] {0, 3, 4}) {
-            m.registers[r] = Checks.bytes(Checks.read(x, r));
+            m.registers[r] = Checks.bytes(x.read(r));
         }
         for (int i = 0; i < 300; i++) {
             x.add(6, 1, 3 * i);
@@ -287,10 +287,10 @@ public final class ContextsTest {
         for (int kind = 1; kind <= 3; kind += 2) {
             checks.due("sender", x.sender(0, 3, kind, 3, 11, 0, 3), m.sender(0, 3, kind, 3, 11, 0, 3));
             checks.due("export", x.export(0, 12, 6, 300), m.export(0, 12, 6, 300));
-            checks.due("exported", Checks.read(x, 12), Checks.hex(m.registers[12]));
+            checks.due("exported", x.read(12), Checks.hex(m.registers[12]));
             for (int what = 0; what <= 2; what++) {
                 checks.due("secret", x.secret(0, what, 12), m.secret(0, what, 12));
-                checks.due("secret " + what, Checks.read(x, 12), Checks.hex(m.registers[12]));
+                checks.due("secret " + what, x.read(12), Checks.hex(m.registers[12]));
             }
         }
     }
@@ -300,36 +300,36 @@ public final class ContextsTest {
     /** A seal is a lock by the context's key and its base ^ SEQUENCE, byte for byte. */
     private static void nonce() {
         for (int cipher = 1; cipher <= 3; cipher++) {
-            KeySealer x = prepared();
+            Sealer x = prepared();
             x.sender(0, 0, 1, cipher, 11, 0, 3);
             x.sequence(0, 0xf1e2d3c4, 0xb5a69788, 0x796a5b4c);
             x.secret(0, 0, 12);
             x.secret(0, 1, 13);
-            String base = Checks.read(x, 13);
+            String base = x.read(13);
             String sequence = "f1e2d3c4b5a69788796a5b4c";
             StringBuilder both = new StringBuilder();
             for (int i = 0; i < 24; i++) {
                 int digit = Character.digit(base.charAt(i), 16) ^ Character.digit(sequence.charAt(i), 16);
                 both.append(Character.forDigit(digit, 16));
             }
-            Checks.fill(x, 13, both.toString());
+            x.fill(13, both.toString());
             checks.due("seal", x.seal(0, 14, 9, 10), 45);
             checks.due("lock", x.lock(cipher, 15, 12, 13, 9, 10), 45);
-            checks.due("the same", Checks.read(x, 14), Checks.read(x, 15));
+            checks.due("the same", x.read(14), x.read(15));
         }
     }
 
     /** A sender in 0 and a receiver in 1, by cipher 3. */
-    private static KeySealer talking() {
-        KeySealer x = prepared();
+    private static Sealer talking() {
+        Sealer x = prepared();
         x.sender(0, 0, 1, 3, 11, 0, 3);
         x.receiver(1, 0, 1, 3, 11, 2);
         return x;
     }
 
     private static void sealRefusals() {
-        KeySealer x = talking();
-        Checks.fill(x, 6, Checks.rising(0, 285));
+        Sealer x = talking();
+        x.fill(6, Checks.rising(0, 285));
         for (int c : new int[] {1, 2, -1, 4, Integer.MIN_VALUE, Integer.MAX_VALUE}) {
             checks.due("seal by " + c, x.seal(c, 12, 9, 10), KeySealer.BAD);
         }
@@ -349,13 +349,13 @@ public final class ContextsTest {
         x.sequence(0, 0, 0, 0);
         x.copy(6, 6, 0, 284);
         checks.due("seal to the brim", x.seal(0, 6, 6, 6), 300);
-        Checks.fill(x, 7, Checks.rising(0, 284));
+        x.fill(7, Checks.rising(0, 284));
         checks.due("unseal from the brim", x.unseal(1, 6, 7, 6), 284);
-        checks.due("unsealed", Checks.read(x, 6), Checks.rising(0, 284));
+        checks.due("unsealed", x.read(6), Checks.rising(0, 284));
     }
 
     private static void unsealRefusals() {
-        KeySealer x = talking();
+        Sealer x = talking();
         checks.due("seal", x.seal(0, 12, 9, 10), 45);
         for (int c : new int[] {0, 2, -1, 4, Integer.MIN_VALUE, Integer.MAX_VALUE}) {
             checks.due("unseal by " + c, x.unseal(c, 13, 9, 12), KeySealer.BAD);
@@ -380,21 +380,21 @@ public final class ContextsTest {
         checks.due("nothing was given", x.size(13), 0);
         x.sequence(1, 0, 0, 0);
         checks.due("unseal", x.unseal(1, 12, 9, 12), 29);
-        checks.due("unsealed", Checks.read(x, 12), TEXT);
+        checks.due("unsealed", x.read(12), TEXT);
         checks.due("sequence is one more", x.told(1, 6), 1);
     }
 
     private static void export() {
-        KeySealer x = talking();
+        Sealer x = talking();
         for (int n : new int[] {0, 1, 32, 33, 300}) {
-            Checks.fill(x, 12, "0102");
+            x.fill(12, "0102");
             checks.due("export " + n, x.export(0, 12, 10, n), n);
             checks.due("exported " + n, x.size(12), n);
             checks.due("export " + n, x.export(1, 13, 10, n), n);
-            checks.due("the same", Checks.read(x, 13), Checks.read(x, 12));
+            checks.due("the same", x.read(13), x.read(12));
         }
         checks.due("export onto info", x.export(0, 10, 10, 300), 300);
-        checks.due("the same", Checks.read(x, 10), Checks.read(x, 12));
+        checks.due("the same", x.read(10), x.read(12));
         for (int n : new int[] {-1, 301, Integer.MIN_VALUE, Integer.MAX_VALUE}) {
             checks.due("export " + n, x.export(0, 12, 10, n), KeySealer.BAD);
         }
@@ -409,7 +409,7 @@ public final class ContextsTest {
     }
 
     private static void sequence() {
-        KeySealer x = talking();
+        Sealer x = talking();
         int[][] steps = {{0, 0, 0, 0, 0, 1}, {0, 0, -1, 0, 1, 0}, {0, -1, -1, 1, 0, 0}, {5, 6, Integer.MAX_VALUE, 5, 6, Integer.MIN_VALUE},
             {Integer.MIN_VALUE, -1, -1, Integer.MIN_VALUE + 1, 0, 0}, {-1, -1, -2, -1, -1, -1}, {-1, 0, -1, -1, 1, 0}};
         for (int[] s : steps) {
@@ -434,7 +434,7 @@ public final class ContextsTest {
     }
 
     private static void told() {
-        KeySealer x = prepared();
+        Sealer x = prepared();
         x.use(1, 8);
         x.use(2, 9);
         x.use(3, 4);
@@ -460,12 +460,12 @@ public final class ContextsTest {
     }
 
     private static void secret() {
-        KeySealer x = prepared();
+        Sealer x = prepared();
         int[][] sizes = {{1, 1, 16, 12, 32}, {1, 2, 32, 12, 32}, {3, 3, 32, 12, 64}, {3, 255, 0, 0, 64}, {1, 255, 0, 0, 32}};
         for (int[] s : sizes) {
             x.sender(0, 0, s[0], s[1], 11, 0, 3);
             for (int what = 0; what <= 2; what++) {
-                Checks.fill(x, 12, "0102");
+                x.fill(12, "0102");
                 checks.due("secret " + what + " of " + s[1], x.secret(0, what, 12), s[2 + what]);
                 checks.due("size of it", x.size(12), s[2 + what]);
             }
@@ -483,7 +483,7 @@ public final class ContextsTest {
     }
 
     private static void withoutCipher() {
-        KeySealer x = prepared();
+        Sealer x = prepared();
         checks.due("sender by 255", x.sender(0, 0, 1, 255, 11, 0, 3), 32);
         checks.due("receiver by 255", x.receiver(1, 0, 1, 255, 11, 2), 0);
         checks.due("it does not seal", x.seal(0, 12, 9, 10), KeySealer.BAD);
@@ -492,6 +492,6 @@ public final class ContextsTest {
         checks.due("bad before limit", x.seal(0, 12, 9, 10), KeySealer.BAD);
         checks.due("it exports", x.export(0, 12, 9, 50), 50);
         checks.due("it exports", x.export(1, 13, 9, 50), 50);
-        checks.due("the same", Checks.read(x, 12), Checks.read(x, 13));
+        checks.due("the same", x.read(12), x.read(13));
     }
 }

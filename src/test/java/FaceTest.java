@@ -18,11 +18,14 @@ public final class FaceTest {
     public static void main(String[] args) throws IllegalAccessException {
         Class<?> face = KeySealer.class;
         checks.due("public and final", face.getModifiers() & (Modifier.PUBLIC | Modifier.FINAL), Modifier.PUBLIC | Modifier.FINAL);
+        checks.due("nothing is taken over from another class", face.getSuperclass() == Object.class ? 1 : 0, 1);
+        checks.due("interfaces", face.getInterfaces().length, 0);
         methods(face);
         constants(face);
         Constructor<?>[] made = face.getDeclaredConstructors();
         checks.due("constructors", made.length, 1);
         checks.due("its parameters", made[0].getParameterCount(), 0);
+        checks.due("it names no exceptions", made[0].getExceptionTypes().length, 0);
         checks.due("it is public", made[0].getModifiers() & Modifier.PUBLIC, Modifier.PUBLIC);
         for (Class<?> inside : face.getDeclaredClasses()) {
             checks.due(inside + " is static", inside.getModifiers() & Modifier.STATIC, Modifier.STATIC);
@@ -50,6 +53,7 @@ public final class FaceTest {
             got.add(all.toString());
             checks.due(all + " is public", method.getModifiers(), Modifier.PUBLIC);
             checks.due(all + " answers an int", method.getReturnType() == int.class ? 1 : 0, 1);
+            checks.due(all + " names no exceptions", method.getExceptionTypes().length, 0);
         }
         checks.due("methods", got.toString(), want.toString());
     }

@@ -80,9 +80,9 @@ public final class RegisterBoundsTest {
             "ffffffff00000000", "0123456789abcdef", "00000000000000ff", "0000000000000100"};
         for (String row : rows) {
             for (int n = 1; n <= 8; n++) {
-                KeySealer x = new KeySealer();
+                Sealer x = new Sealer();
                 x.add(0, n, Long.parseUnsignedLong(row, 16));
-                checks.due("lowest " + n + " of " + row, Checks.read(x, 0), row.substring(16 - 2 * n));
+                checks.due("lowest " + n + " of " + row, x.read(0), row.substring(16 - 2 * n));
             }
         }
     }

@@ -15,7 +15,7 @@ public final class RegistersTest {
     }
 
     private static void newObject() {
-        KeySealer x = new KeySealer();
+        Sealer x = new Sealer();
         for (int r = 0; r < 16; r++) {
             checks.due("new size " + r, x.size(r), 0);
             checks.due("new at " + r, x.at(r, 0), KeySealer.NONE);
@@ -25,27 +25,27 @@ public final class RegistersTest {
                 checks.due("new told " + c + " " + what, x.told(c, what), 0);
             }
         }
-        KeySealer y = new KeySealer();
+        Sealer y = new Sealer();
         x.add(0, 1, 5);
         checks.due("objects are apart", y.size(0), 0);
     }
 
     private static void add() {
-        KeySealer x = new KeySealer();
+        Sealer x = new Sealer();
         for (int n = 1; n <= 8; n++) {
             x.clear(15);
             checks.due("add " + n, x.add(15, n, 0xf1e2d3c4b5a69788L), n);
-            checks.due("added " + n, Checks.read(x, 15), "f1e2d3c4b5a69788".substring(16 - 2 * n));
+            checks.due("added " + n, x.read(15), "f1e2d3c4b5a69788".substring(16 - 2 * n));
         }
         checks.due("add behind", x.add(15, 2, -1), 10);
-        checks.due("added behind", Checks.read(x, 15), "f1e2d3c4b5a69788ffff");
+        checks.due("added behind", x.read(15), "f1e2d3c4b5a69788ffff");
         for (int r : NO_REGISTERS) {
             checks.due("add to " + r, x.add(r, 1, 0), KeySealer.BAD);
         }
         for (int n : new int[] {0, -1, 9, Integer.MIN_VALUE, Integer.MAX_VALUE}) {
             checks.due("add n " + n, x.add(15, n, 0), KeySealer.BAD);
         }
-        Checks.fill(x, 0, Checks.rising(0, 296));
+        x.fill(0, Checks.rising(0, 296));
         checks.due("add over", x.add(0, 5, 0), KeySealer.FULL);
         checks.due("nothing added", x.size(0), 296);
         checks.due("add bad before full", x.add(0, 9, 0), KeySealer.BAD);
@@ -55,9 +55,9 @@ public final class RegistersTest {
     }
 
     private static void clear() {
-        KeySealer x = new KeySealer();
-        Checks.fill(x, 3, "0102030405");
-        Checks.fill(x, 4, "09");
+        Sealer x = new Sealer();
+        x.fill(3, "0102030405");
+        x.fill(4, "09");
         checks.due("clear", x.clear(3), 5);
         checks.due("cleared", x.size(3), 0);
         checks.due("clear again", x.clear(3), 0);
@@ -68,18 +68,18 @@ public final class RegistersTest {
     }
 
     private static void copy() {
-        KeySealer x = new KeySealer();
-        Checks.fill(x, 1, "00112233445566");
-        Checks.fill(x, 2, "ffff");
+        Sealer x = new Sealer();
+        x.fill(1, "00112233445566");
+        x.fill(2, "ffff");
         checks.due("copy", x.copy(2, 1, 2, 4), 4);
-        checks.due("copied", Checks.read(x, 2), "22334455");
-        checks.due("from stays", Checks.read(x, 1), "00112233445566");
+        checks.due("copied", x.read(2), "22334455");
+        checks.due("from stays", x.read(1), "00112233445566");
         checks.due("copy whole", x.copy(3, 1, 0, 7), 7);
-        checks.due("copied whole", Checks.read(x, 3), "00112233445566");
+        checks.due("copied whole", x.read(3), "00112233445566");
         checks.due("copy none at the end", x.copy(2, 1, 7, 0), 0);
         checks.due("copied none", x.size(2), 0);
         checks.due("copy onto itself", x.copy(1, 1, 3, 3), 3);
-        checks.due("copied onto itself", Checks.read(x, 1), "334455");
+        checks.due("copied onto itself", x.read(1), "334455");
         int[][] missing = {{0, 4}, {3, 1}, {4, 0}, {-1, 1}, {-1, 0}, {0, -1}, {2, -1}, {Integer.MAX_VALUE, Integer.MAX_VALUE},
             {1, Integer.MAX_VALUE}, {Integer.MAX_VALUE, 1}, {Integer.MIN_VALUE, Integer.MIN_VALUE}};
         for (int[] part : missing) {
@@ -89,43 +89,43 @@ public final class RegistersTest {
             checks.due("copy to " + r, x.copy(r, 1, 0, 1), KeySealer.BAD);
             checks.due("copy from " + r, x.copy(3, r, 0, 0), KeySealer.BAD);
         }
-        checks.due("refused copies do nothing", Checks.read(x, 3), "00112233445566");
+        checks.due("refused copies do nothing", x.read(3), "00112233445566");
     }
 
     private static void join() {
-        KeySealer x = new KeySealer();
-        Checks.fill(x, 1, "0102");
-        Checks.fill(x, 2, "0a0b0c");
+        Sealer x = new Sealer();
+        x.fill(1, "0102");
+        x.fill(2, "0a0b0c");
         checks.due("join", x.join(1, 2), 5);
-        checks.due("joined", Checks.read(x, 1), "01020a0b0c");
-        checks.due("from stays", Checks.read(x, 2), "0a0b0c");
+        checks.due("joined", x.read(1), "01020a0b0c");
+        checks.due("from stays", x.read(2), "0a0b0c");
         checks.due("join itself", x.join(2, 2), 6);
-        checks.due("joined itself", Checks.read(x, 2), "0a0b0c0a0b0c");
+        checks.due("joined itself", x.read(2), "0a0b0c0a0b0c");
         checks.due("join nothing", x.join(2, 9), 6);
         for (int r : NO_REGISTERS) {
             checks.due("join to " + r, x.join(r, 1), KeySealer.BAD);
             checks.due("join from " + r, x.join(1, r), KeySealer.BAD);
         }
-        Checks.fill(x, 3, Checks.rising(0, 150));
+        x.fill(3, Checks.rising(0, 150));
         checks.due("join to the brim", x.join(3, 3), 300);
         checks.due("last", x.at(3, 299), 149);
         checks.due("join over", x.join(3, 1), KeySealer.FULL);
-        Checks.fill(x, 4, Checks.rising(0, 151));
+        x.fill(4, Checks.rising(0, 151));
         checks.due("join itself over", x.join(4, 4), KeySealer.FULL);
         checks.due("nothing joined", x.size(4), 151);
         checks.due("join nothing to full", x.join(3, 9), 300);
     }
 
     private static void turn() {
-        KeySealer x = new KeySealer();
-        Checks.fill(x, 6, "00ff80");
+        Sealer x = new Sealer();
+        x.fill(6, "00ff80");
         for (int bit = 0; bit < 8; bit++) {
             checks.due("turn up", x.turn(6, 0, bit), (2 << bit) - 1);
             checks.due("turn down", x.turn(6, 1, bit), 255 & ~((2 << bit) - 1));
         }
         checks.due("turn top", x.turn(6, 2, 7), 0);
         checks.due("turn back", x.turn(6, 2, 7), 128);
-        checks.due("turned", Checks.read(x, 6), "ff0080");
+        checks.due("turned", x.read(6), "ff0080");
         for (int i : new int[] {-1, 3, 300, Integer.MIN_VALUE, Integer.MAX_VALUE}) {
             checks.due("turn byte " + i, x.turn(6, i, 0), KeySealer.BAD);
         }
@@ -135,14 +135,14 @@ public final class RegistersTest {
         for (int r : NO_REGISTERS) {
             checks.due("turn in " + r, x.turn(r, 0, 0), KeySealer.BAD);
         }
-        checks.due("refused turns do nothing", Checks.read(x, 6), "ff0080");
+        checks.due("refused turns do nothing", x.read(6), "ff0080");
         x.clear(6);
         checks.due("turn in a cleared one", x.turn(6, 0, 0), KeySealer.BAD);
     }
 
     private static void sizeAndAt() {
-        KeySealer x = new KeySealer();
-        Checks.fill(x, 7, "80ff01");
+        Sealer x = new Sealer();
+        x.fill(7, "80ff01");
         checks.due("size", x.size(7), 3);
         checks.due("at 0", x.at(7, 0), 128);
         checks.due("at 1", x.at(7, 1), 255);

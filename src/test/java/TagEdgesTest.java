@@ -75,10 +75,10 @@ public final class TagEdgesTest {
         for (int i = 0; i < text.length; i++) {
             text[i] ^= hidden[i];
         }
-        KeySealer x = new KeySealer();
-        Checks.fill(x, 0, Checks.hex(key));
-        Checks.fill(x, 1, Checks.hex(nonce));
-        Checks.fill(x, 3, Checks.hex(text));
+        Sealer x = new Sealer();
+        x.fill(0, Checks.hex(key));
+        x.fill(1, Checks.hex(nonce));
+        x.fill(3, Checks.hex(text));
         checks.due("lock", x.lock(3, 4, 0, 1, 2, 3), 48);
         byte[] want = Model.cat(locked, tag);
         for (int i = 0; i < 48; i++) {
