@@ -3,13 +3,17 @@ import java.util.Random;
 /** All promises: random runs of at most 512 calls, the same on the class and on the model. */
 public final class ModelTest {
     private static final int RUNS = 500;
-    private static final int CALLS = 48;
+    private static final int STEPS = 48;
+    private static final int CALLS = 512;
+    /** The most calls of one step with its looks, and those of the last look at all registers. */
+    private static final int STEP_CALLS = 12, LAST_CALLS = 96;
     private static final Checks checks = new Checks();
 
     private final Random random;
     private final int run;
     private final KeySealer x = new KeySealer();
     private final Model m = new Model();
+    private int calls = 0;
 
     private ModelTest(int run) {
         this.run = run;
@@ -25,7 +29,7 @@ public final class ModelTest {
 
     private void go() {
         prepare();
-        for (int i = 0; i < CALLS; i++) {
+        for (int i = 0; i < STEPS && calls <= CALLS - STEP_CALLS - LAST_CALLS; i++) {
             if (random.nextInt(3) == 0) {
                 wildCall();
             } else {
@@ -37,9 +41,12 @@ public final class ModelTest {
         for (int r = 0; r < 16; r++) {
             fingerprint(r);
         }
+        checks.due("run " + run + " stays within the calls that are promised", calls <= CALLS ? 1 : 0, 1);
     }
 
+    /** Every call on the class comes by here, once. */
     private void due(String call, long got, long want) {
+        calls++;
         checks.due("run " + run + ": " + call, got, want);
     }
 
